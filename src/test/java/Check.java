@@ -34,6 +34,11 @@ final class Check {
         due("act of \"" + text + "\"", send(text), want);
     }
 
+    /** What it answers is of no matter here. */
+    void actAny(String text) {
+        send(text);
+    }
+
     /** The statement is one whose word of that number, from 0 on, is the first wrong one. */
     void wrongWord(String text, int number) {
         act(text, -1 - number);
