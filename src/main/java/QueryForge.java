@@ -374,8 +374,8 @@ public final class QueryForge {
         int kind;
         int tableCount;
         int partCount;
-        /** The name, then the number of the column that an update changes. */
-        int target;
+        int targetName;
+        int targetColumn;
         int conditionStart;
         /** The number of the word that the place begins with. */
         int groupWord;
@@ -399,7 +399,8 @@ public final class QueryForge {
             kind = newKind;
             tableCount = 0;
             partCount = 0;
-            target = 0;
+            targetName = 0;
+            targetColumn = NONE;
             conditionStart = NONE;
             groupWord = NONE;
             orderNumber = NONE;
@@ -555,7 +556,7 @@ public final class QueryForge {
         }
 
         private boolean readAssignment() {
-            statement.target = words.contentAt(at);
+            statement.targetName = words.contentAt(at);
             boolean right = take(Words.A_NAME) && take('=') && expression(0);
             statement.addItem(NONE);
             return right;
@@ -950,8 +951,14 @@ public final class QueryForge {
             if (statement.kind == Words.INSERT) {
                 return checkInsert();
             }
-            int fault = statement.kind == Words.SELECT ? checkSelect()
-                : statement.kind == Words.UPDATE ? checkUpdate() : checkCondition();
+            int fault = statement.kind == Words.SELECT ? checkItems()
+                : statement.kind == Words.UPDATE ? checkAssignment() : 0;
+            if (fault == 0 && statement.conditionStart != NONE) {
+                fault = checkWords(statement.conditionStart, statement.draft.end());
+            }
+            if (fault == 0 && statement.kind == Words.SELECT) {
+                fault = checkTail();
+            }
             return fault == 0 && greatestHeight > MOST_VALUES ? FAULT_DEEP : fault;
         }
 
@@ -985,23 +992,20 @@ public final class QueryForge {
             return table.isFull() ? FAULT_FULL : 0;
         }
 
-        private int checkUpdate() {
+        private int checkAssignment() {
             Table table = tables.tableAt(statement.tableNumbers[0]);
-            statement.target = table.findColumn(statement.target);
-            if (statement.target == NONE) {
+            statement.targetColumn = table.findColumn(statement.targetName);
+            if (statement.targetColumn == NONE) {
                 return FAULT_NAME;
             }
             int fault = checkWords(0, statement.itemEnds[0]);
             if (fault != 0) {
                 return fault;
             }
-            if (clash(types[0], table.typeOf(statement.target))) {
-                return FAULT_TYPE;
-            }
-            return checkCondition();
+            return clash(types[0], table.typeOf(statement.targetColumn)) ? FAULT_TYPE : 0;
         }
 
-        private int checkSelect() {
+        private int checkItems() {
             for (int i = 0; i < statement.partCount; i++) {
                 int fault = checkWords(statement.itemStart(i), statement.itemEnds[i]);
                 if (fault != 0) {
@@ -1011,8 +1015,7 @@ public final class QueryForge {
                     return FAULT_TYPE;
                 }
             }
-            int fault = checkCondition();
-            return fault == 0 ? checkTail() : fault;
+            return 0;
         }
 
         private int checkTail() {
@@ -1038,13 +1041,6 @@ public final class QueryForge {
             return statement.aggregates[0] == NONE && statement.itemEnds[0] == 1
                 && statement.draft.operationAt(0) == loadOf(place)
                 && statement.draft.argumentAt(0) == place % MOST_COLUMNS;
-        }
-
-        private int checkCondition() {
-            if (statement.conditionStart == NONE) {
-                return 0;
-            }
-            return checkWords(statement.conditionStart, statement.draft.end());
         }
 
         /** If there is no fault, types[0] is the type of what the words give. */
@@ -1209,7 +1205,7 @@ public final class QueryForge {
             copyDraft(0, statement.itemEnds[0]);
             program.add(Machine.NOTE, 0);
             endRows(next);
-            program.add(Machine.CHANGE, statement.target);
+            program.add(Machine.CHANGE, statement.targetColumn);
         }
 
         private void makeSelect() {
