@@ -310,6 +310,7 @@ public final class QueryForge {
 
     /** Words of the machine, each with an argument. */
     private static final class Code {
+        /** A draft has no more words than its text; a program has some twenty more. */
         private static final int ROOM = MOST_SIGNS + 56;
 
         private final int[] operations;

@@ -15,6 +15,7 @@ public final class WorkTest {
         pairs();
         firstFault();
         delete();
+        fourColumns();
         update();
         faultsChangeNothing();
         CHECK.end();
@@ -201,6 +202,20 @@ public final class WorkTest {
         CHECK.select("select a,b from t", "null,null");
         CHECK.act("delete t where not a=1", 0);
         CHECK.size(0, 1);
+    }
+
+    private static void fourColumns() {
+        CHECK.fresh("create t(a int,b int,c int,d text)", "insert t(1,2,3,'x')", "insert t(4,5,null,'y')",
+            "insert t(7,8,9,null)", "insert t(10,11,12,'z')");
+        CHECK.act("select e from t", -1001);
+        CHECK.act("update t set e=1", -1001);
+        CHECK.act("delete t where b=5", 1);
+        CHECK.table(0, "1,2,3,'x'|7,8,9,null|10,11,12,'z'");
+        CHECK.act("delete t where a=1", 1);
+        CHECK.act("update t set d='q'where d is null", 1);
+        CHECK.table(0, "7,8,9,'q'|10,11,12,'z'");
+        CHECK.act("delete t where a=99", 0);
+        CHECK.select("select d,c,b,a from t", "'q',9,8,7|'z',12,11,10");
     }
 
     private static void update() {
