@@ -214,6 +214,7 @@ public final class FaultsTest {
         CHECK.act("select a from t group a", 1);
         CHECK.act("select t.a from t group a", 1);
         CHECK.act("select a from t group t.a", 1);
+        CHECK.act("select (a) from t group a", 1);
         CHECK.act("select a,sum(a),count(b) from t group a", 1);
         CHECK.act("select a from t group b", TYPE);
         CHECK.act("select sum(a) from t group a", TYPE);
