@@ -6,10 +6,14 @@ import java.util.List;
  * and counted, and no object is used for more calls than the document promises something about.
  */
 final class Check {
-    private static final int MOST_CALLS = 512;
+    static final int MOST_CALLS = 512;
 
     private final String name;
+    /** The sentence of the document that is being looked at, to be told with a wrong answer. */
+    private String sentence = "";
     private QueryForge forge = new QueryForge();
+    /** What the object has done well since it was made. */
+    private final List<String> past = new ArrayList<>();
     private int calls;
     private int asked;
     private int wrong;
@@ -18,9 +22,15 @@ final class Check {
         this.name = name;
     }
 
+    /** What comes next is about this sentence of the document. */
+    void says(String newSentence) {
+        sentence = newSentence;
+    }
+
     /** A new object that has done these statements well. */
     void fresh(String... statements) {
         forge = new QueryForge();
+        past.clear();
         calls = 0;
         for (String statement : statements) {
             int answer = send(statement);
@@ -42,6 +52,21 @@ final class Check {
     /** The statement is one whose word of that number, from 0 on, is the first wrong one. */
     void wrongWord(String text, int number) {
         act(text, -1 - number);
+    }
+
+    /**
+     * The statement is a fault, and whatever is asked behind it is answered as if it had not been.
+     * Other objects with the same past are asked, so that this one is not used up.
+     */
+    void refused(String text, int fault) {
+        Twins twins = new Twins(past, text);
+        due("act of \"" + text + "\"", twins.fault(), fault);
+        String difference = twins.difference();
+        due("what is asked behind \"" + text + "\" is as before it" + difference, difference.isEmpty(), true);
+    }
+
+    void refusedWord(String text, int number) {
+        refused(text, -1 - number);
     }
 
     void unit(int sign, boolean want) {
@@ -129,7 +154,8 @@ final class Check {
         asked++;
         if (got != want) {
             wrong++;
-            System.out.println(name + ": " + call + " answered " + got + ", due is " + want);
+            String due = sentence.isEmpty() ? "" : ", as the document says: " + sentence;
+            System.out.println(name + ": " + call + " answered " + got + ", due is " + want + due);
         }
     }
 
@@ -147,7 +173,11 @@ final class Check {
                 due("unit(" + (int) text.charAt(i) + ") in \"" + text + "\"", false, true);
             }
         }
-        return asked().act();
+        int answer = asked().act();
+        if (answer >= 0) {
+            past.add(text);
+        }
+        return answer;
     }
 
     private QueryForge asked() {
