@@ -564,6 +564,14 @@ public final class FaultEdgesTest {
         CHECK.refused("delete t where not not " + chain(11) + "=9", DEEP);
         CHECK.refused("delete t where " + chain(11) + " is null", DEEP);
         CHECK.refused("select count(" + chain(11) + ") from t", DEEP);
+        // What stands to the left of a sign is there as one value, whatever it is made of.
+        for (String left : new String[] {"not a=1", "a is null", "not a is null", "not[not a=1]", "not[a=1 or a=2]"}) {
+            CHECK.fresh("create t(a int,b text)", "insert t(1,'x')", "select b from t");
+            CHECK.act("delete t where a=9 and[" + left + " and a=" + chain(7) + "]", 0);
+            CHECK.refused("delete t where a=9 and[" + left + " and a=" + chain(8) + "]", DEEP);
+        }
+        CHECK.act("select a-(-a-" + chain(8) + ") from t", 1);
+        CHECK.refused("select a-(-a-" + chain(9) + ") from t", DEEP);
     }
 
     private static void wantedByTwoSides() {

@@ -12,6 +12,7 @@ public final class MachineEdgesTest {
         noneReachedIt();
         everyStatement();
         greatestTables();
+        wordsDone();
         wordsOfTheText();
         rowsOfTheTable();
         rowsOfTwoTables();
@@ -65,6 +66,21 @@ public final class MachineEdgesTest {
         }
     }
 
+    private static void wordsDone() throws ReflectiveOperationException {
+        CHECK.says("Whether the machine did, for the last statement that reached it,");
+        QueryForge forge = new QueryForge();
+        // NUMBERS, TABLE, END.
+        act(forge, "create t(a int)");
+        CHECK.due("words done for a create", done(forge), 3);
+        // OUTER, NEXT_OUTER, DROP, END.
+        act(forge, "delete t");
+        CHECK.due("words done for a delete of no rows", done(forge), 4);
+        act(forge, "insert t(1)");
+        // MARK, JUMP and NEXT_OUTER once more.
+        act(forge, "delete t");
+        CHECK.due("words done for a delete of a row", done(forge), 7);
+    }
+
     private static void wordsOfTheText() throws ReflectiveOperationException {
         CHECK.says("times the words of the text,");
         QueryForge forge = new QueryForge();
@@ -87,6 +103,7 @@ public final class MachineEdgesTest {
         most(forge, "update t set a=a", 400L * 6 * 4);
         most(forge, "select 1/0 from t", 400L * 6 * 4);
         most(forge, "delete t", 400L * 2 * 4);
+        most(forge, "create u(a int)", 400L * 6);
     }
 
     private static void rowsOfTwoTables() throws ReflectiveOperationException {
@@ -142,7 +159,6 @@ public final class MachineEdgesTest {
     private static void most(QueryForge forge, String text, long words) throws ReflectiveOperationException {
         act(forge, text);
         CHECK.due("bounded() behind \"" + text + "\"", forge.bounded(), true);
-        CHECK.due("words done for \"" + text + "\" are counted", done(forge) >= 2, true);
         setDone(forge, words);
         CHECK.due("bounded() of " + words + " words for \"" + text + "\"", forge.bounded(), true);
         setDone(forge, words + 1);

@@ -22,6 +22,7 @@ public final class PromiseEdgesTest {
         textsAsNumbers();
         noSuchValue();
         badAsValue();
+        nullsAsZero();
         nulls();
         sizes();
         cells();
@@ -59,6 +60,10 @@ public final class PromiseEdgesTest {
         CHECK.refused("update t set a=1/a", -1004);
         CHECK.refused("delete t where 1/a=1", -1004);
         CHECK.refused("update t set b='z'where 1/a=1", -1004);
+        // A fault in the midst of values, and then a statement that wants as many as there may be.
+        CHECK.act("delete t where 1=1 or 1=2-(3-(4-(5-(6-(1/a)))))", -1004);
+        CHECK.act("select 1+(2+(3+(4+(5+(6+(7+(8+(9+10)))))))) from t where a=1", 1);
+        CHECK.value(0, 0, 55);
     }
 
     private static void lastCalls() {
@@ -355,17 +360,30 @@ public final class PromiseEdgesTest {
         CHECK.due("BAD", BAD, -1);
     }
 
-    private static void nulls() {
+    private static void nullsAsZero() {
         CHECK.says("0 for null.");
-        CHECK.fresh("create t(a int,b text)", "insert t(null,null)", "insert t(0,'a')");
-        CHECK.act("select a,b,null,a+1 from t", 2);
-        CHECK.says("Whether it is null. False also: none such.");
+        CHECK.fresh("create t(a int,b text)", "insert t(7,'q')", "select a,b,a,b from t", "update t set a=null",
+            "update t set b=null");
+        // Other values were at these places before.
+        CHECK.act("select a,b,null,a+1 from t", 1);
         for (int item = 0; item < 4; item++) {
             CHECK.value(0, item, 0);
+        }
+        CHECK.cell(0, 0, 0, 0);
+        CHECK.cell(0, 0, 1, 0);
+        CHECK.act("select max(a),min(b) from t", 1);
+        CHECK.value(0, 0, 0);
+        CHECK.value(0, 1, 0);
+    }
+
+    private static void nulls() {
+        CHECK.says("Whether it is null. False also: none such.");
+        CHECK.fresh("create t(a int,b text)", "insert t(null,null)", "insert t(0,'a')");
+        CHECK.act("select a,b,null,a+1 from t", 2);
+        for (int item = 0; item < 4; item++) {
             CHECK.isNull(0, item, true);
             CHECK.isNull(1, item, item == 2);
         }
-        CHECK.value(1, 0, 0);
         CHECK.isNull(2, 0, false);
         CHECK.isNull(0, 4, false);
         CHECK.isNull(-1, 0, false);

@@ -64,6 +64,10 @@ public final class WordEdgesTest {
         }
         CHECK.refusedWord("insert t(1,a')", 5);
         CHECK.refusedWord("insert t(1,'a'')", 6);
+        // The last of two hundred signs: a text that begins there, one that is cut off, one that ends.
+        CHECK.refusedWord("delete t where b=" + " ".repeat(182) + "'", 5);
+        CHECK.refusedWord("delete t where b=" + " ".repeat(180) + "'qq", 5);
+        CHECK.act("delete t where b=" + " ".repeat(180) + "'q'", 1);
     }
 
     private static void everySign() {
@@ -243,5 +247,13 @@ public final class WordEdgesTest {
         CHECK.refused("select a from zzz", NAME);
         CHECK.refused("select z from zzzzzx", NAME);
         CHECK.refused("select z from azzzzz", NAME);
+        for (char letter = 'a'; letter <= 'z'; letter++) {
+            String twice = letter + "" + letter;
+            CHECK.fresh("create " + twice + "(" + letter + " int)", "create " + letter + "(" + twice + " int)");
+            CHECK.act("select " + letter + " from " + twice, 0);
+            CHECK.refused("select " + letter + " from " + letter, NAME);
+            CHECK.refused("select m" + letter + "z from " + letter, NAME);
+            CHECK.refused("select " + letter + "a from " + twice, NAME);
+        }
     }
 }
