@@ -379,7 +379,6 @@ public final class StatementEdgesTest {
 
     private static void bracketsThatDoNotCount() {
         CHECK.says("(but of aggregates, create, insert)");
-        CHECK.fresh("create t(a int)", "insert t(-1)");
         for (String word : new String[] {"sum", "count", "min", "max"}) {
             CHECK.fresh("create t(a int)", "insert t(-1)");
             CHECK.act("select " + word + "(" + nested("(", 20, "a", ")") + ") from t", 1);

@@ -1,6 +1,9 @@
 /** Terms: words, numbers, reserved words and names; each method is of one sentence of the document. */
 public final class WordEdgesTest {
     private static final int NAME = -1001;
+    private static final String[] RESERVED = {"create", "insert", "delete", "update", "set", "select", "from",
+        "where", "group", "order", "desc", "int", "text", "null", "is", "and", "or", "not", "sum", "count",
+        "min", "max"};
     private static final String SIGNS = "()[],.+-*/=<>";
     private static final Check CHECK = new Check("WordEdgesTest");
 
@@ -167,10 +170,6 @@ public final class WordEdgesTest {
             CHECK.refusedWord("select a from t order " + number, 5);
         }
     }
-
-    private static final String[] RESERVED = {"create", "insert", "delete", "update", "set", "select", "from",
-        "where", "group", "order", "desc", "int", "text", "null", "is", "and", "or", "not", "sum", "count",
-        "min", "max"};
 
     private static void reserved() {
         CHECK.says("RESERVED are create, insert, delete, update, set, select, from, where, group, order, desc, "
