@@ -475,7 +475,8 @@ public final class FaultEdgesTest {
     }
 
     private static void orderOfTheText() {
-        CHECK.says("then all that is worked out, in the order of the text, a sign's own fault behind that of its right side;");
+        CHECK.says("then all that is worked out, in the order of the text, a sign's own fault behind that of its "
+            + "right side;");
         two();
         CHECK.refused("select b+x from t", NAME);
         CHECK.refused("select b+1+x from t", TYPE);
