@@ -20,6 +20,8 @@ public final class QueryForge {
     private static final int MOST_VALUES = 10;
     private static final int GREATEST = 2147483647;
     private static final int LEAST = -GREATEST - 1;
+    /** A null, where values are held: below all numbers, as order asks for, and below all sums. */
+    private static final long MISSING = -1L << 62;
     private static final int NONE = -1;
 
     private static final int FAULT_NAME = -1001;
@@ -90,12 +92,12 @@ public final class QueryForge {
 
     public int value(int row, int item) {
         Result result = machine.result();
-        return result.has(row, item) ? result.valueAt(row, item) : BAD;
+        return result.has(row, item) ? shown(result.heldAt(row, item)) : BAD;
     }
 
     public boolean isNull(int row, int item) {
         Result result = machine.result();
-        return result.has(row, item) && result.missingAt(row, item);
+        return result.has(row, item) && result.heldAt(row, item) == MISSING;
     }
 
     public int size(int table) {
@@ -107,7 +109,7 @@ public final class QueryForge {
             return BAD;
         }
         Table asked = tables.tableAt(table);
-        return asked.has(row, column) ? asked.valueAt(row, column) : BAD;
+        return asked.has(row, column) ? shown(asked.heldAt(row, column)) : BAD;
     }
 
     public boolean bounded() {
@@ -116,6 +118,10 @@ public final class QueryForge {
 
     public boolean sound() {
         return machine.knewAll();
+    }
+
+    private static int shown(long held) {
+        return held == MISSING ? 0 : (int) held;
     }
 
     /** The words of a text. A sign of its own has its character as kind. */
@@ -730,11 +736,9 @@ public final class QueryForge {
     private static final class Table {
         private final int[] columnNames;
         private final int[] columnTypes;
-        private final int[] values;
-        private final boolean[] missing;
+        private final long[] values;
         private final boolean[] marked;
-        private final int[] newValues;
-        private final boolean[] newMissing;
+        private final long[] newValues;
         private int name;
         private int columns;
         private int rows;
@@ -742,11 +746,9 @@ public final class QueryForge {
         Table() {
             columnNames = new int[MOST_COLUMNS];
             columnTypes = new int[MOST_COLUMNS];
-            values = new int[MOST_ROWS * MOST_COLUMNS];
-            missing = new boolean[MOST_ROWS * MOST_COLUMNS];
+            values = new long[MOST_ROWS * MOST_COLUMNS];
             marked = new boolean[MOST_ROWS];
-            newValues = new int[MOST_ROWS];
-            newMissing = new boolean[MOST_ROWS];
+            newValues = new long[MOST_ROWS];
             name = 0;
             columns = 0;
             rows = 0;
@@ -776,12 +778,8 @@ public final class QueryForge {
             return row >= 0 && row < rows && column >= 0 && column < columns;
         }
 
-        int valueAt(int row, int column) {
-            return has(row, column) ? values[row * MOST_COLUMNS + column] : 0;
-        }
-
-        boolean missingAt(int row, int column) {
-            return !has(row, column) || missing[row * MOST_COLUMNS + column];
+        long heldAt(int row, int column) {
+            return has(row, column) ? values[row * MOST_COLUMNS + column] : MISSING;
         }
 
         int typeOf(int column) {
@@ -805,9 +803,9 @@ public final class QueryForge {
             }
         }
 
-        void putNext(int column, int value, boolean isMissing) {
+        void putNext(int column, long value) {
             if (rows < MOST_ROWS && column >= 0 && column < columns) {
-                put(rows, column, value, isMissing);
+                values[rows * MOST_COLUMNS + column] = value;
             }
         }
 
@@ -823,11 +821,10 @@ public final class QueryForge {
             }
         }
 
-        void mark(int row, int value, boolean isMissing) {
+        void mark(int row, long newValue) {
             if (row >= 0 && row < rows) {
                 marked[row] = true;
-                newValues[row] = value;
-                newMissing[row] = isMissing;
+                newValues[row] = newValue;
             }
         }
 
@@ -836,7 +833,7 @@ public final class QueryForge {
             int kept = 0;
             for (int row = 0; row < rows; row++) {
                 if (!marked[row]) {
-                    move(row, kept);
+                    System.arraycopy(values, row * MOST_COLUMNS, values, kept * MOST_COLUMNS, columns);
                     kept++;
                 }
             }
@@ -850,23 +847,11 @@ public final class QueryForge {
             int changed = 0;
             for (int row = 0; row < rows && column >= 0 && column < columns; row++) {
                 if (marked[row]) {
-                    put(row, column, newValues[row], newMissing[row]);
+                    values[row * MOST_COLUMNS + column] = newValues[row];
                     changed++;
                 }
             }
             return changed;
-        }
-
-        private void move(int from, int to) {
-            for (int column = 0; column < columns; column++) {
-                put(to, column, valueAt(from, column), missingAt(from, column));
-            }
-        }
-
-        private void put(int row, int column, int value, boolean isMissing) {
-            int at = row * MOST_COLUMNS + column;
-            values[at] = isMissing ? 0 : value;
-            missing[at] = isMissing;
         }
     }
 
@@ -1287,8 +1272,7 @@ public final class QueryForge {
 
     /** Rows of items; behind them there is room for the row that comes next. */
     private static final class Result {
-        private final int[] values;
-        private final boolean[] missing;
+        private final long[] values;
         /** Which stored row stands where. */
         private final int[] order;
         private final int[] merged;
@@ -1296,8 +1280,7 @@ public final class QueryForge {
         private int items;
 
         Result() {
-            values = new int[MOST_RESULTS * MOST_COLUMNS];
-            missing = new boolean[MOST_RESULTS * MOST_COLUMNS];
+            values = new long[MOST_RESULTS * MOST_COLUMNS];
             order = new int[MOST_RESULTS];
             merged = new int[MOST_RESULTS];
             rows = 0;
@@ -1325,18 +1308,13 @@ public final class QueryForge {
             return row >= 0 && row < rows && item >= 0 && item < items;
         }
 
-        int valueAt(int row, int item) {
-            return isInside(row, item) ? values[order[row] * MOST_COLUMNS + item] : 0;
+        long heldAt(int row, int item) {
+            return isInside(row, item) ? values[order[row] * MOST_COLUMNS + item] : MISSING;
         }
 
-        boolean missingAt(int row, int item) {
-            return !isInside(row, item) || missing[order[row] * MOST_COLUMNS + item];
-        }
-
-        void putNext(int item, int value, boolean isMissing) {
+        void putNext(int item, long value) {
             if (rows < MOST_RESULTS && item >= 0 && item < MOST_COLUMNS) {
-                values[rows * MOST_COLUMNS + item] = isMissing ? 0 : value;
-                missing[rows * MOST_COLUMNS + item] = isMissing;
+                values[rows * MOST_COLUMNS + item] = value;
             }
         }
 
@@ -1349,22 +1327,20 @@ public final class QueryForge {
 
         void appendMissing() {
             for (int item = 0; item < MOST_COLUMNS; item++) {
-                putNext(item, 0, true);
+                putNext(item, MISSING);
             }
             append();
         }
 
-        void set(int row, int item, int value) {
+        void set(int row, int item, long value) {
             if (isInside(row, item)) {
                 values[order[row] * MOST_COLUMNS + item] = value;
-                missing[order[row] * MOST_COLUMNS + item] = false;
             }
         }
 
-        int findFirstItem(int value, boolean isMissing) {
+        int findFirstItem(long value) {
             for (int row = 0; row < rows; row++) {
-                boolean isAlike = missingAt(row, 0) == isMissing;
-                if (isAlike && (isMissing || valueAt(row, 0) == value)) {
+                if (heldAt(row, 0) == value) {
                     return row;
                 }
             }
@@ -1403,12 +1379,7 @@ public final class QueryForge {
         }
 
         private boolean isBefore(int stored, int other, int item) {
-            int one = stored * MOST_COLUMNS + item;
-            int two = other * MOST_COLUMNS + item;
-            if (missing[one] || missing[two]) {
-                return missing[one] && !missing[two];
-            }
-            return values[one] < values[two];
+            return values[stored * MOST_COLUMNS + item] < values[other * MOST_COLUMNS + item];
         }
 
         private boolean isInside(int row, int item) {
@@ -1478,9 +1449,7 @@ public final class QueryForge {
 
         private final Code program;
         private final Tables tables;
-        private final int[] values;
-        private final boolean[] missing;
-        private final long[] totals;
+        private final long[] values;
         private Result result;
         private Result fresh;
         private Table outer;
@@ -1500,9 +1469,7 @@ public final class QueryForge {
         Machine(Code program, Tables tables) {
             this.program = program;
             this.tables = tables;
-            values = new int[MOST_VALUES];
-            missing = new boolean[MOST_VALUES];
-            totals = new long[MOST_ROWS * MOST_COLUMNS];
+            values = new long[MOST_VALUES];
             result = new Result();
             fresh = new Result();
             outer = tables.tableAt(0);
@@ -1569,32 +1536,25 @@ public final class QueryForge {
         private void bring(int operation, int argument) {
             switch (operation) {
                 case NOTHING:
-                    push(0, true);
+                    push(MISSING);
                     break;
                 case LOAD_OUTER:
-                    push(outer.valueAt(outerRow, argument), outer.missingAt(outerRow, argument));
+                    push(outer.heldAt(outerRow, argument));
                     break;
                 case LOAD_INNER:
-                    push(inner.valueAt(innerRow, argument), inner.missingAt(innerRow, argument));
+                    push(inner.heldAt(innerRow, argument));
                     break;
                 default:
-                    push(argument, false);
+                    push(argument);
                     break;
             }
         }
 
         private void calculate(int operation) {
-            pop();
-            long right = values[top];
-            boolean isMissing = missing[top];
-            long left = 0;
-            if (operation != NEGATE) {
-                pop();
-                left = values[top];
-                isMissing = isMissing || missing[top];
-            }
-            if (isMissing) {
-                push(0, true);
+            long right = pop();
+            long left = operation == NEGATE ? 0 : pop();
+            if (left == MISSING || right == MISSING) {
+                push(MISSING);
                 return;
             }
             if (operation == DIVIDE && right == 0) {
@@ -1606,7 +1566,7 @@ public final class QueryForge {
                 fail(FAULT_OVERFLOW);
                 return;
             }
-            push((int) number, false);
+            push(number);
         }
 
         private static long calculated(int operation, long left, long right) {
@@ -1624,16 +1584,13 @@ public final class QueryForge {
 
         /** Texts are held so that their order is that of their numbers. */
         private void compare(int operation) {
-            pop();
-            int right = values[top];
-            boolean isMissing = missing[top];
-            pop();
-            int left = values[top];
-            isMissing = isMissing || missing[top];
-            push(isMissing ? UNKNOWN : holds(operation, left, right) ? TRUE : FALSE, false);
+            long right = pop();
+            long left = pop();
+            boolean isUnknown = left == MISSING || right == MISSING;
+            push(isUnknown ? UNKNOWN : holds(operation, left, right) ? TRUE : FALSE);
         }
 
-        private static boolean holds(int operation, int left, int right) {
+        private static boolean holds(int operation, long left, long right) {
             switch (operation) {
                 case EQUAL:
                     return left == right;
@@ -1651,19 +1608,17 @@ public final class QueryForge {
         }
 
         private void judge(int operation) {
-            pop();
-            int right = values[top];
+            long right = pop();
             if (operation == IS_NULL) {
-                push(missing[top] ? TRUE : FALSE, false);
+                push(right == MISSING ? TRUE : FALSE);
                 return;
             }
             if (operation == NOT) {
-                push(TRUE - right, false);
+                push(TRUE - right);
                 return;
             }
-            pop();
-            int left = values[top];
-            push(operation == AND ? Math.min(left, right) : Math.max(left, right), false);
+            long left = pop();
+            push(operation == AND ? Math.min(left, right) : Math.max(left, right));
         }
 
         private void go(int operation, int argument) {
@@ -1693,8 +1648,7 @@ public final class QueryForge {
                     }
                     break;
                 case UNLESS:
-                    pop();
-                    if (values[top] != TRUE) {
+                    if (pop() != TRUE) {
                         at = argument;
                     }
                     break;
@@ -1708,57 +1662,51 @@ public final class QueryForge {
         }
 
         private void collect(int operation, int item) {
-            if (operation == ROW) {
-                fresh.append();
-                return;
-            }
-            if (operation == WHOLE) {
-                startGroup();
-                return;
-            }
-            pop();
-            if (operation == PUT) {
-                fresh.putNext(item, values[top], missing[top]);
-            } else if (operation == GROUP) {
-                findGroup(values[top], missing[top]);
-            } else if (!missing[top]) {
-                gather(operation, item, values[top]);
+            switch (operation) {
+                case PUT:
+                    fresh.putNext(item, pop());
+                    break;
+                case ROW:
+                    fresh.append();
+                    break;
+                case WHOLE:
+                    startGroup();
+                    break;
+                case GROUP:
+                    findGroup(pop());
+                    break;
+                default:
+                    gather(operation, item, pop());
+                    break;
             }
         }
 
-        private void findGroup(int value, boolean isMissing) {
-            group = fresh.findFirstItem(value, isMissing);
+        private void findGroup(long value) {
+            group = fresh.findFirstItem(value);
             if (group == NONE) {
                 startGroup();
-                if (!isMissing) {
-                    fresh.set(group, 0, value);
-                }
+                fresh.set(group, 0, value);
             }
         }
 
         private void startGroup() {
             group = fresh.rowCount();
             fresh.appendMissing();
-            for (int item = 0; item < MOST_COLUMNS && group < MOST_ROWS; item++) {
-                totals[group * MOST_COLUMNS + item] = 0;
-            }
         }
 
-        private void gather(int operation, int item, int value) {
-            if (group < 0 || group >= MOST_ROWS || item < 0 || item >= MOST_COLUMNS) {
+        private void gather(int operation, int item, long value) {
+            if (value == MISSING) {
                 return;
             }
-            boolean isFirst = fresh.missingAt(group, item);
-            int before = fresh.valueAt(group, item);
-            int total = group * MOST_COLUMNS + item;
+            long before = fresh.heldAt(group, item);
+            boolean isFirst = before == MISSING;
             switch (operation) {
                 case COUNT:
-                    totals[total]++;
+                    fresh.set(group, item, isFirst ? 1 : before + 1);
                     break;
                 case SUM:
-                    totals[total] += value;
-                    // The sum may be too great on its way: it is brought in by SUMMED.
-                    fresh.set(group, item, 0);
+                    // It may be too great on its way: SUMMED looks at it in the end.
+                    fresh.set(group, item, isFirst ? value : before + value);
                     break;
                 case MIN:
                     fresh.set(group, item, isFirst ? value : Math.min(before, value));
@@ -1772,8 +1720,10 @@ public final class QueryForge {
         private void finishRows(int operation, int argument) {
             switch (operation) {
                 case COUNTED:
+                    endCounts(argument);
+                    break;
                 case SUMMED:
-                    bringTotals(operation, argument);
+                    endSums(argument);
                     break;
                 case RISING:
                     fresh.sort(argument, false);
@@ -1787,14 +1737,19 @@ public final class QueryForge {
             }
         }
 
-        private void bringTotals(int operation, int item) {
-            for (int row = 0; row < fresh.rowCount() && row < MOST_ROWS && isRunning; row++) {
-                boolean isGiven = operation == COUNTED || !fresh.missingAt(row, item);
-                long total = item >= 0 && item < MOST_COLUMNS ? totals[row * MOST_COLUMNS + item] : 0;
-                if (isGiven && !fits(total)) {
+        private void endCounts(int item) {
+            for (int row = 0; row < fresh.rowCount(); row++) {
+                if (fresh.heldAt(row, item) == MISSING) {
+                    fresh.set(row, item, 0);
+                }
+            }
+        }
+
+        private void endSums(int item) {
+            for (int row = 0; row < fresh.rowCount(); row++) {
+                long sum = fresh.heldAt(row, item);
+                if (sum != MISSING && !fits(sum)) {
                     fail(FAULT_OVERFLOW);
-                } else if (isGiven) {
-                    fresh.set(row, item, (int) total);
                 }
             }
         }
@@ -1810,11 +1765,10 @@ public final class QueryForge {
         private void changeTables(int operation, int argument) {
             switch (operation) {
                 case MARK:
-                    outer.mark(outerRow, 0, true);
+                    outer.mark(outerRow, MISSING);
                     break;
                 case NOTE:
-                    pop();
-                    outer.mark(outerRow, values[top], missing[top]);
+                    outer.mark(outerRow, pop());
                     break;
                 case DROP:
                     answer = outer.dropMarked();
@@ -1823,8 +1777,7 @@ public final class QueryForge {
                     answer = outer.changeMarked(argument);
                     break;
                 case FIELD:
-                    pop();
-                    outer.putNext(argument, values[top], missing[top]);
+                    outer.putNext(argument, pop());
                     break;
                 case APPEND:
                     outer.append();
@@ -1842,19 +1795,18 @@ public final class QueryForge {
             }
         }
 
-        private void push(int value, boolean isMissing) {
+        private void push(long value) {
             if (top < MOST_VALUES) {
                 values[top] = value;
-                missing[top] = isMissing;
                 top++;
             }
         }
 
-        /** What was taken off lies at top; with nothing to take off that place still exists. */
-        private void pop() {
+        private long pop() {
             if (top > 0) {
                 top--;
             }
+            return values[top];
         }
 
         private void fail(int fault) {
