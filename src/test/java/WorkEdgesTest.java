@@ -422,6 +422,7 @@ public final class WorkEdgesTest {
         CHECK.select("select sum(a-1073741823),min(a) from t", "4,1073741824");
         full();
         CHECK.refused("select sum(2147483647) from t,t", OVERFLOW);
+        CHECK.refused("select sum(-2147483647-1) from t,t", OVERFLOW);
         CHECK.select("select sum(a),sum(1),sum(-1) from t", "276,24,-24");
     }
 
